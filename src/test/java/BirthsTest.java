@@ -252,6 +252,12 @@ public final class BirthsTest {
         y.births();
         factsOf(y, 0, 0, 2, 0, 4, 5, NONE, NONE);
         check.same("the second is gone", y.birth(1, 0), UNKNOWN);
+        for (String births : new String[] {"+901,o234", "o987,?165", "01,23"}) {
+            Check.write(y, births);
+            y.births();
+        }
+        factsOf(y, 0, 0, 2, 0, 0, 1, NONE, NONE);
+        factsOf(y, 1, 0, 2, 0, 2, 3, NONE, NONE);
     }
 
     private static void factsOf(FeltByTwin x, int birth, int... facts) {

@@ -32,7 +32,8 @@ public final class EveryInputTest {
         for (int t = 0; t <= 5; t++) {
             for (int e = -1; e <= 5; e++) {
                 for (int what = -1; what <= 2; what++) {
-                    check.same("missed(" + t + ", " + e + ", " + what + ")", x.missed(t, e, what), plain.missed(t, e, what));
+                    String told = t + ", " + e + ", " + what;
+                    check.same("missed(" + told + ")", x.missed(t, e, what), plain.missed(t, e, what));
                 }
             }
         }
@@ -42,7 +43,8 @@ public final class EveryInputTest {
         for (int k = 1; k <= 10; k++) {
             for (int odds = -1; odds <= 10; odds++) {
                 for (int part = -1; part <= 2; part++) {
-                    check.same("round(" + k + ", " + odds + ", " + part + ")", x.round(k, odds, part), plain.round(k, odds, part));
+                    String told = k + ", " + odds + ", " + part;
+                    check.same("round(" + told + ")", x.round(k, odds, part), plain.round(k, odds, part));
                 }
             }
         }

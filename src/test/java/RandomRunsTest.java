@@ -171,7 +171,8 @@ public final class RandomRunsTest {
                 break;
             case 3:
                 int rows = some(1, 3), e = some(0, 4), what = some(0, 1);
-                same("missed(" + rows + ", " + e + ", " + what + ")", x.missed(rows, e, what), plain.missed(rows, e, what));
+                same("missed(" + rows + ", " + e + ", " + what + ")",
+                    x.missed(rows, e, what), plain.missed(rows, e, what));
                 break;
             default:
                 int word = some(0, 3), odds = some(0, 9), part = some(0, 1);
@@ -199,7 +200,8 @@ public final class RandomRunsTest {
                 break;
             case 5:
                 int many = some(2, 9), odds = some(0, 9), part = some(0, 1);
-                same("round(" + many + ", " + odds + ", " + part + ")", x.round(many, odds, part), plain.round(many, odds, part));
+                same("round(" + many + ", " + odds + ", " + part + ")",
+                    x.round(many, odds, part), plain.round(many, odds, part));
                 break;
             default:
                 same("pairings()", x.pairings(), plain.pairings());

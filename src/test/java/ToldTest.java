@@ -45,8 +45,9 @@ public final class ToldTest {
         check.same("restore()", x.restore(), 1);
         check.same("the digest", x.digest(), before);
         x.forget();
-        x.touch(7, 1);
+        x.touch(7, 500);
         check.same("once more", x.restore(), 1);
+        check.same("in its minute", x.felt(1, 1, 1), 1);
         check.same("the digest", x.digest(), before);
         x.road(0, 1, 5);
         Check.write(x, "23");

@@ -177,5 +177,17 @@ public final class TouchesTest {
             z.touch(i % 3 + 2, 997);
         }
         check.same("in a ring everybody has each", z.over(), 9);
+        for (int alone : new int[] {0, 9}) {
+            FeltByTwin w = check.with("+912");
+            for (int i = 0; i < 12; i++) {
+                w.touch(i == 5 ? 3 : alone, 900 + 9 * i);
+            }
+            check.same(alone + " alone, late", w.over(), 10);
+        }
+        FeltByTwin last = check.with("+912");
+        for (int i = 0; i < 12; i++) {
+            last.touch(2 - i % 2, 999 - i % 2);
+        }
+        check.same("each has six, and feels six in the day behind it", last.over(), NONE);
     }
 }
