@@ -8,6 +8,7 @@ public final class NewsTest {
         unseen();
         kept();
         keptWhere();
+        keptForTownZero();
         check.end();
     }
 
@@ -108,6 +109,21 @@ public final class NewsTest {
         keptAre(y, 6, 2, 1, 4, 1, 5);
         y.road(4, 5, 99);
         keptAre(y, 999, 1, 0, 4, NONE, NONE);
+    }
+
+    /** Rings go one way alone: with fewer pairs, or earlier ones, only ways from or to town 0 are too long. */
+    private static void keptForTownZero() {
+        FeltByTwin x = check.with("o0179,o3652");
+        put(x, 2, 3, 5, 1, 1, 4, 2, 4, 1, 5);
+        x.road(5, 0, 3);
+        x.road(1, 0, 2);
+        x.road(1, 3, 3);
+        keptAre(x, 4, 2, 0, 1, 0, 2);
+        FeltByTwin y = check.with("o012");
+        put(y, 4, 5, 3);
+        y.road(1, 4, 1);
+        y.road(4, 5, 1);
+        keptAre(y, 4, 2, 0, 4, 2, 4);
     }
 
     private static void keptAre(FeltByTwin x, int minutes, int... due) {

@@ -21,6 +21,7 @@ final class PlainTwin {
     private int[] towns = new int[10];
     private String page = "";
     private List<String> births = new ArrayList<>();
+    private List<String> born = new ArrayList<>();
     private List<int[]> touches = new ArrayList<>();
     private List<Integer> book = new ArrayList<>();
     private int crowd = 4;
@@ -95,6 +96,8 @@ final class PlainTwin {
     int births() {
         if (!BIRTHS.matcher(page).matches() || !areUnlike(page)) return STATE;
         births = new ArrayList<>(Arrays.asList(page.split(",")));
+        born = new ArrayList<>();
+        for (String text : births) born.add(people(text));
         page = "";
         touches.clear();
         timesRead++;
@@ -113,7 +116,7 @@ final class PlainTwin {
     int birth(int birth, int what) {
         if (out(birth, 0, births.size() - 1)) return UNKNOWN;
         if (out(what, 0, 6)) return OUTSIDE;
-        String who = people(births.get(birth));
+        String who = born.get(birth);
         if (what == 0) return kind(birth);
         if (what == 1) return who.length();
         if (what == 2) return amount(birth);
@@ -128,7 +131,7 @@ final class PlainTwin {
 
     private int birthOf(int person) {
         for (int b = 0; b < births.size(); b++) {
-            if (people(births.get(b)).indexOf('0' + person) >= 0) return b;
+            if (born.get(b).indexOf('0' + person) >= 0) return b;
         }
         return NONE;
     }
@@ -162,7 +165,7 @@ final class PlainTwin {
         List<int[]> all = new ArrayList<>();
         int b = birthOf(person);
         if (b == NONE) return all;
-        String who = people(births.get(b));
+        String who = born.get(b);
         if (kind(b) == 1) {
             String turned = who + who;
             int at = who.indexOf('0' + person);
@@ -230,22 +233,22 @@ final class PlainTwin {
 
     /** Minute by minute: when news from a town are in each town. More bonds stand as towns, two each. */
     private int[] arrivals(int start, int set, int[] bonds) {
-        boolean[][] come = new boolean[LONG_ENOUGH + 200][6];
+        boolean[] come = new boolean[(LONG_ENOUGH + 200) * 6];
         int[] first = new int[6];
         Arrays.fill(first, NONE);
-        come[0][start] = true;
+        come[start] = true;
         for (int minute = 0; minute < LONG_ENOUGH; minute++) {
             for (int town = 0; town < 6; town++) {
-                if (!come[minute][town] || first[town] != NONE) continue;
+                if (!come[minute * 6 + town] || first[town] != NONE) continue;
                 first[town] = minute;
-                for (int to = 0; to < 6; to++) if (roads[town][to] > 0) come[minute + roads[town][to]][to] = true;
+                for (int to = 0; to < 6; to++) if (roads[town][to] > 0) come[(minute + roads[town][to]) * 6 + to] = true;
                 for (int person = 0; person < 10; person++) {
                     if (towns[person] != town || !mayTouch(person, set)) continue;
-                    for (int[] f : feelings(person, minute + 1)) come[f[1]][towns[f[0]]] = true;
+                    for (int[] f : feelings(person, minute + 1)) come[f[1] * 6 + towns[f[0]]] = true;
                 }
                 for (int i = 0; i < bonds.length; i += 2) {
-                    if (bonds[i] == town) come[minute + 1][bonds[i + 1]] = true;
-                    if (bonds[i + 1] == town) come[minute + 1][bonds[i]] = true;
+                    if (bonds[i] == town) come[(minute + 1) * 6 + bonds[i + 1]] = true;
+                    if (bonds[i + 1] == town) come[(minute + 1) * 6 + bonds[i]] = true;
                 }
             }
         }
@@ -255,7 +258,7 @@ final class PlainTwin {
     private boolean mayTouch(int person, int set) {
         int b = birthOf(person);
         if (b == NONE || kind(b) == 2) return false;
-        for (char c : people(births.get(b)).toCharArray()) if ((set >> (c - '0') & 1) == 1) return false;
+        for (char c : born.get(b).toCharArray()) if ((set >> (c - '0') & 1) == 1) return false;
         return true;
     }
 

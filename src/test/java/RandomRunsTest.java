@@ -5,8 +5,10 @@ import java.util.Random;
 
 /** Long runs of calls, mostly as told and some not, on FeltByTwin and on PlainTwin: all answers are the same. */
 public final class RandomRunsTest {
-    private static final int RUNS = 120;
+    private static final int RUNS = 600;
+    // What an object answers behind its 512th call is free; one step makes at most eight calls.
     private static final int CALLS = 512;
+    private static final int MOST_IN_A_STEP = 8;
     private static final int[] ODD = {-1, -2, 1 << 20, Integer.MAX_VALUE, Integer.MIN_VALUE};
 
     private final Check check;
@@ -14,6 +16,7 @@ public final class RandomRunsTest {
     private final FeltByTwin x = new FeltByTwin();
     private final PlainTwin plain = new PlainTwin();
     private String run;
+    private int made;
 
     private RandomRunsTest(Check check, int seed) {
         this.check = check;
@@ -30,7 +33,7 @@ public final class RandomRunsTest {
     }
 
     private void go() {
-        for (int made = 0; made < CALLS; made++) {
+        while (made + MOST_IN_A_STEP < CALLS) {
             switch (random.nextInt(8)) {
                 case 0: townsCall(); break;
                 case 1: pageCall(); break;
@@ -57,6 +60,7 @@ public final class RandomRunsTest {
     }
 
     private void same(String call, long got, long due) {
+        made++;
         check.same(run + ": " + call, got, due);
     }
 
@@ -184,7 +188,7 @@ public final class RandomRunsTest {
 
     private void crowdCall() {
         int one = some(0, 7), set = random.nextInt(2) == 0 ? 255 & ~(1 << random.nextInt(8)) : some(0, 255);
-        int masked = set & ((1 << x.count(4)) - 1);
+        int masked = set & ((1 << plain.count(4)) - 1);
         switch (random.nextInt(12)) {
             case 0:
                 int n = random.nextInt(3) == 0 ? some(0, 9) : 2 + 2 * random.nextInt(4);
