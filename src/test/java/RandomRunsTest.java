@@ -6,9 +6,9 @@ import java.util.Random;
 /** Long runs of calls, mostly as told and some not, on FeltByTwin and on PlainTwin: all answers are the same. */
 public final class RandomRunsTest {
     private static final int RUNS = 600;
-    // What an object answers behind its 512th call is free; one step makes at most eight calls.
+    // What an object answers behind its 512th call is free; one step makes fewer than twelve calls.
     private static final int CALLS = 512;
-    private static final int MOST_IN_A_STEP = 8;
+    private static final int MOST_IN_A_STEP = 12;
     private static final int[] ODD = {-1, -2, 1 << 20, Integer.MAX_VALUE, Integer.MIN_VALUE};
 
     private final Check check;
