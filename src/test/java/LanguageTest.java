@@ -22,6 +22,10 @@ public final class LanguageTest {
     private static final Set<String> CONSTANTS = Set.of("NONE", "UNKNOWN", "OUTSIDE", "STATE", "FULL");
     private static final Pattern FORBIDDEN = Pattern.compile(
         "\\b(throw|throws|try|catch|synchronized|assert|protected|native|volatile|package)\\b|->|::|Exact\\(");
+    // Of the library, what rule 4 lists and the class needs; all other names are its own.
+    private static final Set<String> LIBRARY = Set.of("Math.min", "Math.max", "Integer.bitCount", "Arrays.fill",
+        "System.arraycopy");
+    private static final int LONGEST_METHOD = 60;
     private static final Check check = new Check();
 
     public static void main(String[] args) throws IOException {
@@ -64,16 +68,23 @@ public final class LanguageTest {
     private static void nested() {
         Class<?>[] inside = FeltByTwin.class.getDeclaredClasses();
         check.holds("at most twelve classes", inside.length + 1 <= 12);
+        members(FeltByTwin.class);
         for (Class<?> one : inside) {
             check.holds(one + " is static", Modifier.isStatic(one.getModifiers()));
-            check.holds(one + " has at most twenty fields", one.getDeclaredFields().length <= 20);
-            for (Field field : one.getDeclaredFields()) {
-                int modifiers = field.getModifiers();
-                check.holds(field + " is final if static", !Modifier.isStatic(modifiers) || Modifier.isFinal(modifiers));
-            }
-            for (Method method : one.getDeclaredMethods()) {
-                check.holds(method + " has seven parameters at most", method.getParameterCount() <= 7);
-            }
+            members(one);
+        }
+    }
+
+    private static void members(Class<?> one) {
+        int fields = 0;
+        for (Field field : one.getDeclaredFields()) {
+            int modifiers = field.getModifiers();
+            check.holds(field + " is final if static", !Modifier.isStatic(modifiers) || Modifier.isFinal(modifiers));
+            fields += Modifier.isStatic(modifiers) ? 0 : 1;
+        }
+        check.holds(one + " has at most twenty fields beside its constants", fields <= 20);
+        for (Method method : one.getDeclaredMethods()) {
+            check.holds(method + " has seven parameters at most", method.getParameterCount() <= 7);
         }
     }
 
@@ -88,5 +99,49 @@ public final class LanguageTest {
             check.holds("import " + imports.group(1) + " is allowed", imports.group(1).equals("java.util.Arrays"));
         }
         check.holds("the code is plain ASCII", text.chars().allMatch(c -> c < 128));
+        check.holds("no text, so none is joined", code.indexOf('"') < 0);
+        check.holds("no float, no double", !Pattern.compile("\\b(float|double)\\b").matcher(code).find());
+        library(code);
+        room(code);
+        methodsAreShort(text);
+    }
+
+    private static void library(String code) {
+        Set<String> own = new TreeSet<>();
+        own.add("FeltByTwin");
+        for (Class<?> one : FeltByTwin.class.getDeclaredClasses()) {
+            own.add(one.getSimpleName());
+        }
+        Matcher names = Pattern.compile("\\b([A-Z]\\w*[a-z]\\w*)(\\.\\w+)?").matcher(code.replaceAll("import [^;]+;", ""));
+        while (names.find()) {
+            boolean isOwn = own.contains(names.group(1));
+            check.holds(names.group() + " may be used", isOwn || LIBRARY.contains(names.group()));
+        }
+    }
+
+    /** All calls of a run live in one room, so objects are made with the object that they belong to, never by a call. */
+    private static void room(String code) {
+        Pattern field = Pattern.compile("private (final )?[\\w\\[\\]]+ \\w+ = new [\\w\\[\\] *]+(\\(\\))?;");
+        for (String line : code.split("\n")) {
+            String told = line.trim();
+            boolean makes = Pattern.compile("\\b(new|clone|copyOf|copyOfRange)\\b").matcher(told).find();
+            check.holds("made by a call: " + told,
+                !makes || field.matcher(told).matches() || told.equals("births[i] = new Birth();"));
+        }
+    }
+
+    private static void methodsAreShort(String text) {
+        int begun = 0;
+        String name = "";
+        String[] lines = text.split("\n");
+        for (int i = 0; i < lines.length; i++) {
+            if (lines[i].matches("(    |        )\\w[^=;]*\\) \\{")) {
+                begun = i;
+                name = lines[i].trim();
+            } else if (lines[i].matches("(    |        )\\}") && !name.isEmpty()) {
+                check.holds(name + " is short", i - begun < LONGEST_METHOD);
+                name = "";
+            }
+        }
     }
 }
